@@ -310,44 +310,30 @@ public final class FatigueMenus {
         if (!now.hasDish(dish)) {
             throw new IndexOutOfBoundsException("no such dish");
         }
-        switch (what) {
-            case 0: return at(now.parts, dish);
-            case 1: return at(now.costs, dish);
-            case 2: return at(now.tastes, dish);
-            case 3: return at(now.joys, dish);
-            case 4: return at(now.left, dish);
-            case 5: return at(now.leftDays, dish);
-            case 6: return now.isLeftover(dish) ? 1 : 0;
-            case 7: return now.timesPlanned(dish);
-            case 8: return leftovers.wastedOf(now, dish);
-            default: throw new IllegalArgumentException("what is not 0 to 8");
+        if (!isWithin(what, 0, 8)) {
+            throw new IllegalArgumentException("what is not 0 to 8");
         }
+        return figureOfDish(dish, what);
     }
 
     public int guest(int guest, int what) throws IndexOutOfBoundsException, IllegalArgumentException {
         if (!now.hasGuest(guest)) {
             throw new IndexOutOfBoundsException("no such guest");
         }
-        switch (what) {
-            case 0: return at(now.comes, guest);
-            case 1: return at(now.vetoes, guest);
-            case 2: return now.dishesBefore(guest);
-            default: throw new IllegalArgumentException("what is not 0 to 2");
+        if (!isWithin(what, 0, 2)) {
+            throw new IllegalArgumentException("what is not 0 to 2");
         }
+        return figureOfGuest(guest, what);
     }
 
     public int day(int day, int what) throws IndexOutOfBoundsException, IllegalArgumentException {
         if (!isDay(day)) {
             throw new IndexOutOfBoundsException("no such day");
         }
-        switch (what) {
-            case 0: return now.mealCount(day);
-            case 1: return now.mealCost(day);
-            case 2: return outlook.joyOfMeal(day);
-            case 3: return now.vetoedTastes(day);
-            case 4: return now.guestsOn(day);
-            default: throw new IllegalArgumentException("what is not 0 to 4");
+        if (!isWithin(what, 0, 4)) {
+            throw new IllegalArgumentException("what is not 0 to 4");
         }
+        return figureOfDay(day, what);
     }
 
     public int source(int day, int part) throws IndexOutOfBoundsException {
@@ -358,23 +344,10 @@ public final class FatigueMenus {
     }
 
     public int count(int what) throws IllegalArgumentException {
-        switch (what) {
-            case 0: return now.dishCount;
-            case 1: return now.guestCount;
-            case 2: return now.planCount();
-            case 3: return outlook.joyOfPlan();
-            case 4: return now.planCost();
-            case 5: return now.sourceCount();
-            case 6: return leftovers.wastedOfAll(now);
-            case 7: return now.wholeMeals();
-            case 8:
-            case 9:
-            case 10:
-            case 11: return now.weekCost(what - 8);
-            case 12: return snapshots.takenCount();
-            case 13: return history.size;
-            default: throw new IllegalArgumentException("what is not 0 to 13");
+        if (!isWithin(what, 0, 13)) {
+            throw new IllegalArgumentException("what is not 0 to 13");
         }
+        return figureOfAll(what);
     }
 
     public int setting(int setting) throws IndexOutOfBoundsException {
@@ -436,14 +409,32 @@ public final class FatigueMenus {
     public long digest() {
         long hash = 2531L;
         for (int what = 0; what <= 13; what++) {
-            hash = 31L * hash + count(what);
+            hash = 31L * hash + figureOfAll(what);
         }
         for (int setting = 0; setting < SETTINGS; setting++) {
             hash = 31L * hash + at(now.settings, setting);
         }
-        hash = hashOfDishes(hash);
-        hash = hashOfGuests(hash);
-        hash = hashOfDays(hash);
+        for (int dish = 0; dish < now.dishCount; dish++) {
+            for (int what = 0; what <= 8; what++) {
+                hash = 31L * hash + figureOfDish(dish, what);
+            }
+            hash = 31L * hash + outlook.bestDayOf(dish);
+        }
+        for (int guest = 0; guest < now.guestCount; guest++) {
+            for (int what = 0; what <= 2; what++) {
+                hash = 31L * hash + figureOfGuest(guest, what);
+            }
+        }
+        for (int day = 0; day < DAYS; day++) {
+            for (int what = 0; what <= 4; what++) {
+                hash = 31L * hash + figureOfDay(day, what);
+            }
+            for (int part = 0; part < PARTS; part++) {
+                hash = 31L * hash + at(now.plan, cellOf(day, part));
+                hash = 31L * hash + leftovers.sourceDay(now, cellOf(day, part));
+                hash = 31L * hash + outlook.bestDish(day, part);
+            }
+        }
         hash = 31L * hash + bitsOfShare(usedShare());
         hash = 31L * hash + text.length;
         for (int index = 0; index < text.length; index++) {
@@ -452,40 +443,59 @@ public final class FatigueMenus {
         return hash;
     }
 
-    private long hashOfDishes(long before) {
-        long hash = before;
-        for (int dish = 0; dish < now.dishCount; dish++) {
-            for (int what = 0; what <= 8; what++) {
-                hash = 31L * hash + dish(dish, what);
-            }
-            hash = 31L * hash + outlook.bestDayOf(dish);
+    private int figureOfAll(int what) {
+        switch (what) {
+            case 0: return now.dishCount;
+            case 1: return now.guestCount;
+            case 2: return now.planCount();
+            case 3: return outlook.joyOfPlan();
+            case 4: return now.planCost();
+            case 5: return now.sourceCount();
+            case 6: return leftovers.wastedOfAll(now);
+            case 7: return now.wholeMeals();
+            case 8:
+            case 9:
+            case 10:
+            case 11: return now.weekCost(what - 8);
+            case 12: return snapshots.takenCount();
+            case 13: return history.size;
+            default: return NONE;
         }
-        return hash;
     }
 
-    private long hashOfGuests(long before) {
-        long hash = before;
-        for (int guest = 0; guest < now.guestCount; guest++) {
-            for (int what = 0; what <= 2; what++) {
-                hash = 31L * hash + guest(guest, what);
-            }
+    private int figureOfDish(int dish, int what) {
+        switch (what) {
+            case 0: return at(now.parts, dish);
+            case 1: return at(now.costs, dish);
+            case 2: return at(now.tastes, dish);
+            case 3: return at(now.joys, dish);
+            case 4: return at(now.left, dish);
+            case 5: return at(now.leftDays, dish);
+            case 6: return now.isLeftover(dish) ? 1 : 0;
+            case 7: return now.timesPlanned(dish);
+            case 8: return leftovers.wastedOf(now, dish);
+            default: return NONE;
         }
-        return hash;
     }
 
-    private long hashOfDays(long before) {
-        long hash = before;
-        for (int day = 0; day < DAYS; day++) {
-            for (int what = 0; what <= 4; what++) {
-                hash = 31L * hash + day(day, what);
-            }
-            for (int part = 0; part < PARTS; part++) {
-                hash = 31L * hash + planned(day, part);
-                hash = 31L * hash + source(day, part);
-                hash = 31L * hash + outlook.bestDish(day, part);
-            }
+    private int figureOfGuest(int guest, int what) {
+        switch (what) {
+            case 0: return at(now.comes, guest);
+            case 1: return at(now.vetoes, guest);
+            case 2: return now.dishesBefore(guest);
+            default: return NONE;
         }
-        return hash;
+    }
+
+    private int figureOfDay(int day, int what) {
+        switch (what) {
+            case 0: return now.mealCount(day);
+            case 1: return now.mealCost(day);
+            case 2: return outlook.joyOfMeal(day);
+            case 3: return now.vetoedTastes(day);
+            case 4: return now.guestsOn(day);
+            default: return NONE;
+        }
     }
 
     /** The bits of a share of 0 to 1, made by hand: the library's way is not among what may be used. */
@@ -819,10 +829,19 @@ public final class FatigueMenus {
             return pairAll(state);
         }
 
-        /** Whether each serving of this one leftover finds a source. */
-        boolean isSoundFor(State state, int dish) {
+        /**
+         * Whether a sound plan stays so with one more dish in an empty cell: only the servings
+         * of the dish itself can come to lack a source, for one more source takes none away.
+         */
+        boolean staySoundWith(State state, int cell, int dish) {
+            if (!state.isLeftover(dish)) {
+                return true;
+            }
             forget();
-            return pairServings(state, dish);
+            put(state.plan, cell, dish);
+            boolean sound = pairServings(state, dish);
+            put(state.plan, cell, NONE);
+            return sound;
         }
 
         int sourceDay(State state, int cell) {
@@ -938,21 +957,7 @@ public final class FatigueMenus {
             if (state.weekCost(day / DAYS_OF_WEEK) + at(state.costs, dish) > at(state.settings, BUDGET)) {
                 return TOO_DEAR;
             }
-            return staysSoundWith(cell, dish) ? IT_CAN : UNSOUND;
-        }
-
-        /**
-         * The plan is sound before, and one more source takes none away from a serving:
-         * so only the servings of the dish itself can come to lack one.
-         */
-        private boolean staysSoundWith(int cell, int dish) {
-            if (!state.isLeftover(dish)) {
-                return true;
-            }
-            put(state.plan, cell, dish);
-            boolean sound = leftovers.isSoundFor(state, dish);
-            put(state.plan, cell, NONE);
-            return sound;
+            return leftovers.staySoundWith(state, cell, dish) ? IT_CAN : UNSOUND;
         }
 
         int joyOfDish(int day, int dish) {

@@ -689,6 +689,39 @@ public final class PromiseTests {
         Check.equal("the other one is wasted", 1, x.dish(1, 8));
     }
 
+    /** Dish 0 is left by dish 1, and all begins with the first cell of all. */
+    private static FatigueMenus withFirstCell() {
+        FatigueMenus x = new FatigueMenus();
+        x.addDish(1, 1, 0, 5);
+        x.addDish(0, 1, 1, 5);
+        x.leave(1, 0, 6);
+        x.addGuest();
+        x.serve(0, 1);
+        return x;
+    }
+
+    private static void promise6VetoOfTheFirstCell() {
+        FatigueMenus x = withFirstCell();
+        Check.noState("a veto on the first cell", () -> x.veto(0, 2));
+        x.take(0);
+        x.clear();
+        x.veto(0, 2);
+        Check.noState("in a snapshot too", () -> x.restore(0));
+    }
+
+    private static void promise24SourceInTheFirstCell() {
+        FatigueMenus x = withFirstCell();
+        Check.equal("a source", 1, x.count(5));
+        Check.equal("it is wasted", 1, x.count(6));
+        Check.equal("its dish is", 1, x.dish(1, 8));
+        x.serve(6, 0);
+        Check.equal("the last day to serve it", 0, x.source(6, 1));
+        Check.equal("no dish has no source", NONE, x.source(5, 1));
+        Check.equal("none is wasted", 0, x.count(6));
+        Check.noState("dish 0 is a leftover like any other", () -> x.drop(0, 0));
+        Check.noState("nor moved behind it", () -> x.exchange(0, 7));
+    }
+
     private static void promise25Count() {
         FatigueMenus x = withRoast();
         x.addGuest();
@@ -815,6 +848,11 @@ public final class PromiseTests {
         Check.equal("on the day itself", 9 - 2, x.gain(3, 2));
         Check.equal("another taste", 9, x.gain(2, 3));
         Check.equal("could not be put", 0, x.gain(3, 3));
+        Check.equal("not on the day after the memory", 9 - 2 - 2, x.gain(1, 0));
+        x.set(1, 1);
+        Check.equal("a shorter memory", 9 - 2 - 2, x.gain(2, 0));
+        Check.equal("which ends before the next one", 9, x.gain(1, 0));
+        x.set(1, 3);
         x.set(0, 9);
         Check.equal("below 0", 9 - 9 - 9, x.gain(2, 0));
         Check.equal("no less than 0 is lost", 0, x.gain(4, 0));
@@ -911,6 +949,7 @@ public final class PromiseTests {
         promise4AddGuest();
         promise5Come();
         promise6Veto();
+        promise6VetoOfTheFirstCell();
         promise7Set();
         promise8Serve();
         promise9Drop();
@@ -932,6 +971,7 @@ public final class PromiseTests {
         promise23Day();
         promise24Source();
         promise24SourceOfEqualEnds();
+        promise24SourceInTheFirstCell();
         promise25Count();
         promise26Setting();
         promise27WhyNot();
