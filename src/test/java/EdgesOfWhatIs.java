@@ -289,6 +289,15 @@ public final class EdgesOfWhatIs {
         Twins.asks("24: no leftover any more", NONE, () -> Twins.after(Kitchens::busy, x -> x.leave(0, NONE, 1)), x -> x.source(1, 1));
     }
 
+    private static void noEmptyPlaceHasASource() {
+        FatigueMenus x = Kitchens.busy();
+        for (int day = 0; day < 28; day++) {
+            for (int part = 0; part < 3; part++) {
+                Check.equal("24: of all places one alone has a source, day " + day, day == 1 && part == 1 ? 0 : NONE, x.source(day, part));
+            }
+        }
+    }
+
     private static void sourceFromTheNextDayOnUntilItsLastDay() {
         for (int days = 1; days <= 6; days++) {
             for (int day = 0; day + days < 28; day += 7) {
@@ -453,6 +462,22 @@ public final class EdgesOfWhatIs {
         Check.equal("25: no more sources by fewer days", 2, x.count(5));
     }
 
+    private static void aSourceInEachPlace() {
+        for (int part = 0; part < 3; part++) {
+            for (int day = 0; day < 28; day++) {
+                FatigueMenus x = new FatigueMenus();
+                x.addDish(part, 1, 0, 5);
+                x.addDish(2 - part, 1, 1, 5);
+                x.addDish(1, 1, 1, 5);
+                x.leave(0, part == 1 ? 2 : 1, 6);
+                x.serve(day, 0);
+                Check.equal("25: a source on day " + day, 1, x.count(5));
+                Check.equal("25: it is wasted", 1, x.count(6));
+                Check.equal("25: by its dish", 1, x.dish(0, 8));
+            }
+        }
+    }
+
     // ---- 26: setting
 
     private static void eachSetting() {
@@ -487,6 +512,7 @@ public final class EdgesOfWhatIs {
         joyOfADayIsThatOfItsDishesOnIt();
         tastesThatAreVetoedOnADay();
         noDishOrNoLeftoverHasNoSource();
+        noEmptyPlaceHasASource();
         sourceFromTheNextDayOnUntilItsLastDay();
         theOneThatEndsFirstIsFound();
         ofOneDayTheLowestPartIsFound();
@@ -497,6 +523,7 @@ public final class EdgesOfWhatIs {
         costOfTheWeekOfEachDay();
         countsOfSnapshotsAndSavedStates();
         sourcesAndWastedOnes();
+        aSourceInEachPlace();
         eachSetting();
         Check.finish("EdgesOfWhatIs");
     }

@@ -1,8 +1,15 @@
+import java.io.IOException;
 import java.lang.reflect.Constructor;
 import java.lang.reflect.Field;
 import java.lang.reflect.Method;
 import java.lang.reflect.Modifier;
+import java.nio.file.Files;
+import java.nio.file.Path;
+import java.util.ArrayList;
+import java.util.List;
 import java.util.TreeSet;
+import java.util.regex.Matcher;
+import java.util.regex.Pattern;
 
 /** The face of the class: just what the document lists under "The public face", and nothing kept statically. */
 public final class FaceTest {
@@ -25,7 +32,7 @@ public final class FaceTest {
     }
 
     private static void methods() {
-        TreeSet<String> due = new TreeSet<>(java.util.List.of(METHODS));
+        TreeSet<String> due = new TreeSet<>(List.of(METHODS));
         TreeSet<String> found = new TreeSet<>();
         TreeSet<String> names = new TreeSet<>();
         for (Method method : FatigueMenus.class.getDeclaredMethods()) {
@@ -48,6 +55,33 @@ public final class FaceTest {
                 Check.equal(owner.getSimpleName() + "." + method.getName() + " bears a public name", 0, names.contains(method.getName()) ? 1 : 0);
             }
         }
+    }
+
+    private static String toldWithThrows(Method method) {
+        List<String> names = new ArrayList<>();
+        for (Class<?> type : method.getExceptionTypes()) {
+            names.add(type.getSimpleName());
+        }
+        return told(method) + " throws " + String.join(", ", names);
+    }
+
+    /** The throws clauses are those of the document, in its order. */
+    private static void throwsClauses() throws IOException {
+        TreeSet<String> due = new TreeSet<>();
+        Matcher line = Pattern.compile("^    public (\\w+ \\w+)\\((.*?)\\)(?: throws (.*?))?;$", Pattern.MULTILINE)
+                .matcher(Files.readString(Path.of("../shared/DOC.md")));
+        while (line.find()) {
+            String types = line.group(2).replaceAll(" \\w+(, )?", ",").replaceAll(",$", "");
+            due.add(line.group(1) + "(" + types + ") throws " + (line.group(3) == null ? "" : line.group(3)));
+        }
+        TreeSet<String> found = new TreeSet<>();
+        for (Method method : FatigueMenus.class.getDeclaredMethods()) {
+            if (Modifier.isPublic(method.getModifiers())) {
+                found.add(toldWithThrows(method));
+            }
+        }
+        Check.equal("methods in the document", METHODS.length, due.size());
+        Check.tell("the throws clauses", due.toString(), found.toString());
     }
 
     private static void fields() {
@@ -82,9 +116,10 @@ public final class FaceTest {
         Check.equal("the class is final", 1, Modifier.isFinal(FatigueMenus.class.getModifiers()) ? 1 : 0);
     }
 
-    public static void main(String[] args) {
+    public static void main(String[] args) throws IOException {
         Check.equal("NONE", -1, FatigueMenus.NONE);
         methods();
+        throwsClauses();
         fields();
         constructors();
         Check.finish("FaceTest");
