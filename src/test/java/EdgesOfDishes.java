@@ -104,6 +104,22 @@ public final class EdgesOfDishes {
         }
     }
 
+    private static void eachOfTwelveKeepsItsOwn() {
+        FatigueMenus x = new FatigueMenus();
+        for (int k = 0; k < 12; k++) {
+            x.addDish(k % 3, 30 - 2 * k, k % 6, 1 + k % 9);
+        }
+        for (int k = 0; k < 12; k++) {
+            Check.equal("3: nothing before, dish " + k, NONE, x.leave(k, 11 - k, 1 + k % 6));
+        }
+        for (int k = 0; k < 12; k++) {
+            int[] due = {k % 3, 30 - 2 * k, k % 6, 1 + k % 9, 11 - k, 1 + k % 6, 1, 0, 0};
+            for (int what = 0; what <= 8; what++) {
+                Check.equal("2: of twelve, dish " + k + " property " + what, due[what], x.dish(k, what));
+            }
+        }
+    }
+
     private static void addDishIsUndoable() {
         Twins.undoable("2: the first state", 0, Kitchens::empty, x -> x.addDish(0, 0, 0, 1));
         Twins.undoable("2: the sixth state", 5, () -> Kitchens.saved(5), x -> x.addDish(0, 0, 0, 1));
@@ -398,6 +414,7 @@ public final class EdgesOfDishes {
         rangesOfADish();
         atMostTwelveDishes();
         aNewDishLeavesNothing();
+        eachOfTwelveKeepsItsOwn();
         addDishIsUndoable();
         daysOfLeave();
         noSuchDishToLeave();

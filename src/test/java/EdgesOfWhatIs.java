@@ -313,6 +313,21 @@ public final class EdgesOfWhatIs {
         Twins.answers("24: to the last day of all", 21, () -> roastWith(x -> x.leave(3, 0, 6), x -> x.serve(21, 3), x -> x.serve(27, 0)), x -> x.source(27, 1));
     }
 
+    private static void sourceOfEachDishToEachOther() {
+        for (int from = 0; from < 12; from++) {
+            for (int to = 0; to < 12; to++) {
+                if (from != to) {
+                    FatigueMenus x = Kitchens.twelve();
+                    x.leave(from, to, 6);
+                    x.serve(0, from);
+                    x.serve(6, to);
+                    Check.equal("24: from dish " + from + " to dish " + to, 0, x.source(6, to % 3));
+                    Check.equal("24: it is used, dish " + from, 0, x.dish(from, 8));
+                }
+            }
+        }
+    }
+
     private static void theOneThatEndsFirstIsFound() {
         FatigueMenus x = new FatigueMenus();
         x.addDish(0, 0, 0, 5);
@@ -514,6 +529,7 @@ public final class EdgesOfWhatIs {
         noDishOrNoLeftoverHasNoSource();
         noEmptyPlaceHasASource();
         sourceFromTheNextDayOnUntilItsLastDay();
+        sourceOfEachDishToEachOther();
         theOneThatEndsFirstIsFound();
         ofOneDayTheLowestPartIsFound();
         servingsFindSourcesByAscendingDays();

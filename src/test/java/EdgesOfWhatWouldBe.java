@@ -47,6 +47,19 @@ public final class EdgesOfWhatWouldBe {
         Twins.noIndex("31: behind twelve", Kitchens::twelve, x -> x.bestDay(12));
     }
 
+    private static void aDishThatWasJustAddedOrUndone() {
+        Twins.asks("27: just added", 0, Kitchens::twelve, x -> x.whyNot(27, 2, 11));
+        Twins.asks("28: just added", 9, Kitchens::twelve, x -> x.joyOn(27, 11));
+        Twins.asks("29: just added", 11, () -> Twins.after(Kitchens::twelve, x -> x.undo(), x -> x.addDish(2, 0, 3, 9)), x -> x.best(27, 2));
+        Twins.asks("30: just added", 9, Kitchens::twelve, x -> x.gain(27, 11));
+        Twins.Making undone = () -> Twins.after(Kitchens::twelve, x -> x.set(0, 2), x -> x.undo(), x -> x.undo());
+        Twins.noIndex("27: just undone", undone, x -> x.whyNot(27, 2, 11));
+        Twins.noIndex("28: just undone", undone, x -> x.joyOn(27, 11));
+        Twins.asks("29: just undone", 2, undone, x -> x.best(27, 2));
+        Twins.noIndex("30: just undone", undone, x -> x.gain(27, 11));
+        Twins.noIndex("31: just undone", undone, x -> x.bestDay(11));
+    }
+
     // ---- 27: whyNot
 
     /** All five reasons speak against the hash on day 4 for part 0, but for those that are put away. */
@@ -129,6 +142,24 @@ public final class EdgesOfWhatWouldBe {
         Twins.asks("27: a source that is a leftover", 5, ring, x -> x.whyNot(7, 1, 0));
     }
 
+    private static void sourcesAndServingsOfEachPart() {
+        for (int from = 0; from < 3; from++) {
+            for (int to = 0; to < 3; to++) {
+                FatigueMenus x = new FatigueMenus();
+                x.addDish(from, 0, 0, 5);
+                x.addDish(to, 0, 1, 5);
+                x.leave(0, 1, 6);
+                x.serve(20, 0);
+                for (int day = 0; day < 28; day++) {
+                    int due = day == 20 && from == to ? 1 : day > 20 && day <= 26 ? 0 : 5;
+                    Check.equal("27: from part " + from + " to part " + to + ", day " + day, due, x.whyNot(day, to, 1));
+                }
+                x.serve(26, 1);
+                Check.equal("24: from part " + from + " to part " + to, 20, x.source(26, to));
+            }
+        }
+    }
+
     // ---- 28: joyOn
 
     private static void joyByTheDaysOfMemory() {
@@ -140,6 +171,21 @@ public final class EdgesOfWhatWouldBe {
                     int due = on > day && on <= day + memory ? 7 : 9;
                     Twins.answers("28: memory " + memory + ", a dish on day " + day + ", day " + on, due, one, x -> x.joyOn(asked, 0));
                     Twins.answers("28: another taste, day " + on, 9, one, x -> x.joyOn(asked, 3));
+                }
+            }
+        }
+    }
+
+    private static void joyAfterADishOfEachPart() {
+        for (int memory = 1; memory <= 10; memory++) {
+            for (int other = 0; other < 84; other++) {
+                int on = other / 3;
+                FatigueMenus x = Kitchens.twelve();
+                x.set(1, memory);
+                x.serve(on, other % 3);
+                for (int day = 0; day < 28; day++) {
+                    int due = day > on && day <= on + memory ? 7 : 9;
+                    Check.equal("28: memory " + memory + ", after " + other + ", day " + day, due, x.joyOn(day, day % 3));
                 }
             }
         }
@@ -188,6 +234,7 @@ public final class EdgesOfWhatWouldBe {
         }
         Twins.Making tired = () -> Twins.after(() -> mains(9, 0, 6, 2, 1, 5), x -> x.serve(3, 0));
         Twins.asks("29: tired of the one", 1, tired, x -> x.best(4, 1));
+        Twins.asks("29: tired of the later one", 0, () -> Twins.after(() -> mains(2, 1, 5, 9, 0, 6), x -> x.serve(3, 1)), x -> x.best(4, 1));
         Twins.asks("29: not tired any more", 0, tired, x -> x.best(7, 1));
         Twins.asks("29: just as much joy, so the cheapest", 1, () -> Twins.after(tired, x -> x.set(0, 1)), x -> x.best(4, 1));
         Twins.asks("29: without any joy the cheapest", 1, () -> Twins.after(() -> mains(9, 0, 9, 2, 0, 1), x -> x.set(0, 9), x -> x.serve(3, 0)), x -> x.best(4, 1));
@@ -224,6 +271,25 @@ public final class EdgesOfWhatWouldBe {
             int due = day < 7 || day > 13 || day == 10 ? 9 : 7;
             Twins.answers("30: beside day 10, day " + day, due, two, x -> x.gain(on, 1));
             Twins.answers("30: another taste, day " + day, 9, two, x -> x.gain(on, 4));
+        }
+    }
+
+    /** Beside one dish of the same taste, in each part of each day. */
+    private static void gainBesideOneOther() {
+        for (int memory : new int[] {1, 3, 10}) {
+            for (int other = 0; other < 84; other++) {
+                int on = other / 3;
+                FatigueMenus x = Kitchens.twelve();
+                x.set(1, memory);
+                x.serve(on, other % 3);
+                for (int day = 0; day < 28; day++) {
+                    for (int part = 0; part < 3; part++) {
+                        boolean taken = day == on && part == other % 3;
+                        int due = taken ? 0 : day != on && Math.abs(day - on) <= memory ? 7 : 9;
+                        Check.equal("30: memory " + memory + ", beside " + other + ", day " + day + " part " + part, due, x.gain(day, part));
+                    }
+                }
+            }
         }
     }
 
@@ -423,16 +489,20 @@ public final class EdgesOfWhatWouldBe {
         noSuchDay();
         noSuchPart();
         noSuchDish();
+        aDishThatWasJustAddedOrUndone();
         theFirstReasonIsTold();
         aDishIsVetoedByOneWhoComes();
         theCostOfTheWeekAboveTheBudget();
         thePlanWouldNotBeSound();
+        sourcesAndServingsOfEachPart();
         joyByTheDaysOfMemory();
+        joyAfterADishOfEachPart();
         joyByTheTiring();
         joyWhetherItCouldBePutThereOrNot();
         theGreatestJoyOnThisDay();
         noDishThatCouldBePutThere();
         gainIsHowMuchTheJoyGrows();
+        gainBesideOneOther();
         gainBelowZero();
         gainOfWhatCouldNotBePut();
         theDayOfTheGreatestGain();
